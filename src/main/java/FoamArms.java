@@ -89,7 +89,7 @@ public final class FoamArms {
         if (bookCount < MOST_BOOKS) {
             Book told = reader.readBook(tape);
             faultKind = reader.faultKind;
-            answer = told == null ? -1 - reader.faultPlace : told.lines;
+            answer = told == null ? -1 - reader.placeOfFault() : told.lines;
             keepBook(told);
         }
         tape.length = 0;
@@ -809,15 +809,15 @@ public final class FoamArms {
         private int nameCount = 0;
         private int at = 0;
         private int value = 0;
+        private int faultToken = 0;
         int faultKind = 0;
-        int faultPlace = 0;
 
         /** The BOOK; null: there is a FAULT. */
         Book readBook(Tape tape) {
             Book told = new Book();
             nameCount = 0;
             faultKind = 0;
-            faultPlace = 0;
+            faultToken = 0;
             at = 0;
             tokens.scan(tape);
             while (!isNow(Tokens.END) && told.lines < Tape.MOST) {
@@ -833,9 +833,13 @@ public final class FoamArms {
             return told;
         }
 
+        int placeOfFault() {
+            return tokens.placeAt(faultToken);
+        }
+
         private boolean refuse(int token, int kind) {
             faultKind = kind;
-            faultPlace = tokens.placeAt(token);
+            faultToken = token;
             return false;
         }
 
@@ -983,7 +987,7 @@ public final class FoamArms {
             return true;
         }
 
-        /** A LINE's first WORD, which readLine has seen; of so many there are some already. */
+        /** Goes over a LINE's first WORD, which readLine has seen, if one more may come. */
         private boolean readFirstWord(int already, int most) {
             if (already >= most) {
                 return refuse(at, TOO_MANY);
@@ -1046,11 +1050,15 @@ public final class FoamArms {
         }
 
         private boolean readNumber(int least, int most) {
-            if (!readToken(Tokens.NUMBER)) {
-                return false;
+            if (tokens.kindAt(at) != Tokens.NUMBER) {
+                return refuse(at, CAN_NOT_COME);
             }
-            value = (int) tokens.valueAt(at - 1);
-            return value >= least && value <= most || refuse(at - 1, WRONG_NUMBER);
+            value = (int) tokens.valueAt(at);
+            if (value < least || value > most) {
+                return refuse(at, WRONG_NUMBER);
+            }
+            at++;
+            return true;
         }
 
         private boolean readToken(int kind) {
@@ -1243,7 +1251,7 @@ public final class FoamArms {
         }
     }
 
-    /** The fewest costs of BOXES for all THINGS of a BOOK. */
+    /** The cheapest BOXES for all THINGS of a BOOK. */
     private static final class BoxChoice {
         private final int[] fitting = new int[Book.MOST];
         private final int[] prices = new int[Book.MOST];

@@ -181,8 +181,25 @@ final class BookTest {
             badAt(head + "pad c side 0 |" + name, 3);
         }
         badAt("pad |c side 0 f thick 10 area 1;" + head, 3);
+        manyNames();
         badAt("foam f 0:0 1:1 keeps 1 price 1;foam |f 7", 3);
         badAt("foam f 0:0 1:1 keeps 1 price 1|?foam f", 1);
+    }
+
+    /** As many NAMES as 600 bytes hold, of which some begin alike. */
+    private static void manyNames() {
+        good(BOX.replace("box b", "box a") + BOX.replace("box b", "box aa") + BOX, 3);
+        StringBuilder text = new StringBuilder(THING + THING.replace("thing c", "thing x"));
+        for (int i = 0; i < 8; i++) {
+            text.append("foam ").append((char) ('f' + i)).append(" 0:0 1:1 keeps 1 price 1;");
+        }
+        for (int i = 0; i < 7; i++) {
+            text.append(BOX.replace("box b", "box " + (char) ('p' + i)));
+        }
+        good(text + BOX.replace("box b", "box o"), 18);
+        badAt(text + "box |c", 3);
+        badAt(text + "box |m", 3);
+        badAt(text + "box |v", 3);
     }
 
     private static void tooMany() {

@@ -117,6 +117,10 @@ final class DropsTest {
         due.is("weights 1 at least", spansOf(light, 0, 1, 99, 100, 100), 99);
         due.is("cut to 1 to 199", spansOf(light, 1, 1, 199, 100, 100),
                 light.blow(0, 0, 1, 100, 0) <= 9 ? 199 : 0);
+        FoamArms hard = Due.with("foam f 0:1 95:95 keeps 1 price 1;"
+                + "thing c weighs 1 size 1 1 1 mark 9; pad c side 0 f thick 100 area 1;");
+        due.is("a weight of 1 is hit by 10", spansOf(hard, 0, 1, 199, 100, 100), 0);
+        due.is("a weight of 2 by 5", spansOf(hard, 0, 199, 200, 100, 100), 1);
         Due.tape(light, 67, 99, 100, 100);
         int two = Due.with("foam f 0:0 1:1 95:95 keeps 1 price 1;"
                 + "thing c weighs 2 size 1 1 1 mark 9; pad c side 0 f thick 100 area 1;")

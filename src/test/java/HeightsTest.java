@@ -54,6 +54,7 @@ final class HeightsTest {
         FoamArms x = vase(700);
         due.is("least", x.recorded(0, 0, 660, 680, 0, 0), 993);
         due.is("greatest", x.recorded(0, 0, 660, 680, 0, 1), 1122);
+        due.is("least, behind another BLOW", x.recorded(0, 0, 641, 660, 0, 0), 993);
         due.is("the one ahead of the least", x.blow(0, 0, 992, 100, 0) < 660, true);
         due.is("the one behind the greatest", x.blow(0, 0, 1123, 100, 0) > 680, true);
         for (int what = 0; what < 2; what++) {
