@@ -700,7 +700,7 @@ public final class FoamArms {
             while (at < endPlace) {
                 int sign = tape.byteAt(at);
                 if (isLetter(sign) || isDigit(sign)) {
-                    at = scanRun(tape, at);
+                    at = Math.max(at + 1, scanRun(tape, at));
                 } else {
                     if (!isBlank(sign)) {
                         add(kindOfSign(sign), at, 0);

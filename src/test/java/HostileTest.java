@@ -26,7 +26,7 @@ final class HostileTest {
         if (dice.nextInt(4) > 0) {
             Due.book(x, BOOK);
         }
-        for (int i = 0; i < 450; i++) {
+        for (int i = 0; i < 400; i++) {
             try {
                 call(x, dice);
             } catch (RuntimeException e) {

@@ -154,11 +154,8 @@ final class OddsTest {
         due.is("9, 2477", x.needed(9, 2477), 83);
         due.is("1, 1000000: too many", x.needed(1, 1000000), -1);
         due.is("2, 1000000", x.needed(2, 1000000), 684);
-        int last = 2;
-        while (x.needed(1, last + 1) != -1) {
-            last++;
-        }
-        due.is("999 is still told", x.needed(1, last), 999);
+        due.is("999 is still told", x.needed(1, 22931), 999);
+        due.is("1000 is not", x.needed(1, 22932), -1);
         for (int wrong : new int[] {-1, 0, 100, MAX, MIN}) {
             due.is("p " + wrong, x.needed(wrong, 2), -1);
         }
