@@ -217,7 +217,7 @@ final class TermsEdgesTest {
         edge.badAt("|1", 1);
     }
 
-    /** Each TOKEN of a LINE left out, put twice, and with the text's end instead of it. */
+    /** Each TOKEN of a LINE left out, put twice, and with the end or no TOKEN instead of it. */
     private static void lineIs(String line) {
         List<String> parts = Arrays.asList(line.split(" "));
         edge.good(HEAD + line, 3);
@@ -225,6 +225,10 @@ final class TermsEdgesTest {
             String ahead = HEAD + String.join(" ", parts.subList(0, i)) + " ";
             if (i > 0) {
                 edge.bad(ahead, ahead.length(), 1);
+            }
+            String behind = " " + String.join(" ", parts.subList(i + 1, parts.size()));
+            for (String none : new String[] {"?", "000001", "abcdefghi", "a1", "1a"}) {
+                edge.badAt(ahead + "|" + none + behind, 1);
             }
             if (i + 1 == parts.size()) {
                 continue;
