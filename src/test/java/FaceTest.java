@@ -6,6 +6,8 @@ import java.lang.reflect.Modifier;
 import java.util.NoSuchElementException;
 import java.util.Set;
 import java.util.TreeSet;
+import java.util.regex.Matcher;
+import java.util.regex.Pattern;
 
 /** The public face, as the document tells it, and nothing beside it. */
 final class FaceTest {
@@ -20,6 +22,8 @@ final class FaceTest {
         "long journey(int,int)", "int proved(int,int)", "int needed(int,int)", "int count(int)",
         "FoamArms()", "NONE",
     };
+
+    private static final Pattern MEMBER = Pattern.compile(" public ([^;{]*?)(?: throws \\w+)?;");
 
     public static void main(String[] args) throws Exception {
         Due due = new Due("FaceTest");
@@ -44,6 +48,10 @@ final class FaceTest {
             }
         }
         due.is("face " + got, got.equals(want), true);
+        String document = Edge.document();
+        if (document != null) {
+            due.is("the document's face", toldFace(document).equals(want), true);
+        }
         privateNames.retainAll(publicNames);
         due.is("private methods with a public one's name " + privateNames, privateNames.size(), 0);
         due.is("final", Modifier.isFinal(FoamArms.class.getModifiers()), true);
@@ -58,6 +66,17 @@ final class FaceTest {
             due.is(c + " is not public", Modifier.isPublic(c.getModifiers()), false);
         }
         due.close();
+    }
+
+    /** The face that the document writes out, in FACE's form. */
+    private static Set<String> toldFace(String document) {
+        Set<String> told = new TreeSet<>();
+        Matcher found = MEMBER.matcher(document.replaceFirst(".*public final class FoamArms \\{", ""));
+        while (found.find()) {
+            String member = found.group(1).replaceAll("static final int | = -1", "");
+            told.add(member.replaceAll("(int|long|boolean) \\w+([,)])", "$1$2").replace(", ", ","));
+        }
+        return told;
     }
 
     private static boolean isHidden(Member m) {
